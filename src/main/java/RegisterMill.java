@@ -838,14 +838,12 @@ public final class RegisterMill {
                 return false;
             }
             int i = 1;
-            for (int type = typeAt(file, i); type != NOTHING; type = typeAt(file, i)) {
-                if (arguments == MOST_ARGUMENTS) {
-                    return false;
-                }
-                argumentTypes[arguments] = type;
+            while (arguments < MOST_ARGUMENTS && typeAt(file, i) != NOTHING) {
+                argumentTypes[arguments] = typeAt(file, i);
+                i += argumentTypes[arguments] == INT ? 1 : 2;
                 arguments++;
-                i += type == INT ? 1 : 2;
             }
+            // A ninth argument stands where the ) would.
             if (file.textByte(descriptor, i) != ')') {
                 return false;
             }
@@ -2705,8 +2703,8 @@ public final class RegisterMill {
     }
 
     /**
-     * Looks at what was made from the REGISTER FILE alone, as a stranger would: a register has a bit for
-     * "an int" and one for "an array", a 0 has both, and where ways meet only what both have stays.
+     * Looks at what was made in the bytes of the REGISTER FILE, not in the rows that they came from: a register
+     * has a bit for "an int" and one for "an array", a 0 has both, and where ways meet only what both have stays.
      */
     private static final class Checker {
         private static final int ROW = 4;
