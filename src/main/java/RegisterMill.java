@@ -1310,8 +1310,10 @@ public final class RegisterMill {
             one = from.methods[m];
             names = known;
             firstCell = 2 + one.locals;
-            Arrays.fill(gotoUnits, 1);
-            Arrays.fill(padded, false);
+            for (int pc = 0; pc < one.codeLength; pc++) {
+                gotoUnits[pc] = 1;
+                padded[pc] = false;
+            }
             boolean grown = true;
             // A round makes something longer, and no instruction gets longer more than twice.
             for (int round = 0; round < 3 * MOST_CODE && grown; round++) {
@@ -2261,7 +2263,9 @@ public final class RegisterMill {
             count++;
             starts[count] = taken;
             lengths[count] = n;
-            Arrays.fill(cells, taken, taken + n, 0);
+            for (int i = 0; i < n; i++) {
+                cells[taken + i] = 0;
+            }
             taken += n + CELLS_BESIDE;
             return count;
         }
@@ -2349,8 +2353,11 @@ public final class RegisterMill {
             m = called;
             one = file.methods[called];
             pc = 0;
-            Arrays.fill(cells, base(), base() + FRAME, 0);
-            top = base() + one.locals;
+            int base = base();
+            for (int i = 0; i < FRAME; i++) {
+                cells[base + i] = 0;
+            }
+            top = base + one.locals;
         }
 
         private void push(int value) {
@@ -2549,7 +2556,9 @@ public final class RegisterMill {
 
         private void enter(int number) {
             int base = level * MOST_REGISTERS;
-            Arrays.fill(registers, base, base + MOST_REGISTERS, 0);
+            for (int i = 0; i < MOST_REGISTERS; i++) {
+                registers[base + i] = 0;
+            }
             place = file.codeAt(number) + 16;
         }
 
@@ -2811,8 +2820,10 @@ public final class RegisterMill {
         }
 
         private void begin() {
-            Arrays.fill(reached, false);
-            Arrays.fill(changed, false);
+            for (int i = 0; i < MOST_UNITS; i++) {
+                reached[i] = false;
+                changed[i] = false;
+            }
             Arrays.fill(now, 0);
             firstChanged = MOST_UNITS;
             for (int i = 0; i < one.arguments; i++) {
