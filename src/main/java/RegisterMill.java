@@ -2777,14 +2777,15 @@ public final class RegisterMill {
             }
         }
 
-        private boolean stringRises(int one, int other) {
-            int shorter = Math.min(file.byteAt(one), file.byteAt(other));
+        /** Whether a STRING's data come before another's, each behind its length, which is below 80. */
+        private boolean stringRises(int first, int second) {
+            int shorter = Math.min(file.byteAt(first), file.byteAt(second));
             for (int i = 1; i <= shorter; i++) {
-                if (file.byteAt(one + i) != file.byteAt(other + i)) {
-                    return file.byteAt(one + i) < file.byteAt(other + i);
+                if (file.byteAt(first + i) != file.byteAt(second + i)) {
+                    return file.byteAt(first + i) < file.byteAt(second + i);
                 }
             }
-            return file.byteAt(one) < file.byteAt(other);
+            return file.byteAt(first) < file.byteAt(second);
         }
 
         /** The MAP ends the file, and its places rise from the header to the MAP itself. */
