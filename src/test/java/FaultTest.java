@@ -274,14 +274,6 @@ public final class FaultTest {
         Mills.loadIs("LOCALS just enough", new FileMaker().method("f", "(III)V", 0, 3, "b1").file(), 1, -1);
     }
 
-    /** A METHOD's code with a FAULT at a byte of it. */
-    private static void faultIs(String descriptor, int stack, int locals, String hex, int kind, int pc) {
-        FileMaker maker = new FileMaker().method("f", descriptor, stack, locals, hex);
-        byte[] file = maker.file();
-        String what = descriptor + " " + stack + " " + locals + ": " + hex;
-        Mills.loadIs(what, file, kind == 0 ? 1 : -kind, kind == 0 ? -1 : maker.codePlace(0) + pc);
-    }
-
     private static void opcodes() {
         String known = " 00 01 02 03 04 05 06 07 08 10 11 12 13 15 19 1a 1b 1c 1d 2a 2b 2c 2d 36 3a 3b 3c 3d 3e 4b 4c 4d 4e 2e 4f"
             + " 57 59 5a 5c 5f 60 64 68 6c 70 74 78 7a 7c 7e 80 82 84 91 92 93 99 9a 9b 9c 9d 9e 9f a0 a1 a2 a3 a4 a5 a6 a7 aa ab"
@@ -289,31 +281,31 @@ public final class FaultTest {
         for (int op = 0; op < 256; op++) {
             if (!known.contains(String.format(" %02x ", op))) {
                 // What no way reaches is looked at, too.
-                faultIs("()V", 4, 4, String.format("b1 %02x 00 00 00 00 00 00", op), 2, 1);
+                Mills.codeIs("()V", 4, 4, String.format("b1 %02x 00 00 00 00 00 00", op), 2, 1);
             }
         }
         for (String hex : new String[] {"10", "11", "1100", "12", "13", "1300", "15", "19", "36", "3a", "84", "8400", "99", "9900",
             "a4", "a600", "a7", "a700", "b8", "b800", "bc", "c4", "c415", "c41500", "c484", "c48400", "c4840000", "c484000000",
             "c6", "c700", "aa", "ab", "aa0000", "aa0000 00000000 00000000", "ab0000 00000000", "ab0000 00000000 000000",
             "aa0000 00000000 00000000 00000000", "ab0000 00000000 00000001 00000000 000000"}) {
-            faultIs("()V", 4, 4, "b1" + hex, 2, 1);
+            Mills.codeIs("()V", 4, 4, "b1" + hex, 2, 1);
         }
         for (String hex : new String[] {"1504", "1904", "3604", "3a04", "840401", "c4150004", "c4190004", "c4360004", "c43a0004",
             "c48400040000", "c4150100", "15ff"}) {
-            faultIs("()V", 4, 4, "b1 00" + hex, 2, 2);
-            faultIs("()V", 4, 40, "b1 00" + hex, hex.equals("c4150100") || hex.equals("15ff") ? 2 : 0, 2);
+            Mills.codeIs("()V", 4, 4, "b1 00" + hex, 2, 2);
+            Mills.codeIs("()V", 4, 40, "b1 00" + hex, hex.equals("c4150100") || hex.equals("15ff") ? 2 : 0, 2);
         }
         for (int first : new int[] {0x1a, 0x2a, 0x3b, 0x4b}) {
             for (int i = 0; i < 4; i++) {
-                faultIs("()V", 4, i, String.format("b1 %02x", first + i), 2, 1);
-                faultIs("()V", 4, i + 1, String.format("b1 %02x", first + i), 0, 0);
+                Mills.codeIs("()V", 4, i, String.format("b1 %02x", first + i), 2, 1);
+                Mills.codeIs("()V", 4, i + 1, String.format("b1 %02x", first + i), 0, 0);
             }
         }
         for (String hex : new String[] {"c400", "c4101010", "c4c4150000", "c4b1", "c41a0000"}) {
-            faultIs("()V", 4, 4, "b1" + hex, 2, 1);
+            Mills.codeIs("()V", 4, 4, "b1" + hex, 2, 1);
         }
         for (int type = 0; type < 256; type++) {
-            faultIs("()V", 4, 4, String.format("b1 bc %02x", type), type == 10 ? 0 : 2, 1);
+            Mills.codeIs("()V", 4, 4, String.format("b1 bc %02x", type), type == 10 ? 0 : 2, 1);
         }
         FileMaker maker = new FileMaker();
         int constant = maker.integer(123456);
@@ -342,27 +334,27 @@ public final class FaultTest {
         String[] wrong = {table(0, -1, 0), table(1, 0, 0), table(7, 67, 61), table(0, 2147483647, 2), table(-2147483648, 2147483647, 0),
             table(2147483647, -2147483648, 2), table(1, 3, 2)};
         for (String one : right) {
-            faultIs("()V", 1, 0, "03 57 00 b1 aa 000000" + one.replace("00000004", "00000000"), 0, 0);
+            Mills.codeIs("()V", 1, 0, "03 57 00 b1 aa 000000" + one.replace("00000004", "00000000"), 0, 0);
         }
         for (String one : wrong) {
-            faultIs("()V", 1, 0, "03 57 00 b1 aa 000000" + one.replace("00000004", "00000000"), 2, 4);
+            Mills.codeIs("()V", 1, 0, "03 57 00 b1 aa 000000" + one.replace("00000004", "00000000"), 2, 4);
         }
         for (String pad : new String[] {"010000", "000100", "000001"}) {
-            faultIs("()V", 1, 0, "03 57 00 b1 aa" + pad + "00000000 00000000 00000000 00000000", 2, 4);
-            faultIs("()V", 1, 0, "03 57 00 b1 ab" + pad + "00000000 00000000", 2, 4);
+            Mills.codeIs("()V", 1, 0, "03 57 00 b1 aa" + pad + "00000000 00000000 00000000 00000000", 2, 4);
+            Mills.codeIs("()V", 1, 0, "03 57 00 b1 ab" + pad + "00000000 00000000", 2, 4);
         }
-        faultIs("()V", 1, 0, "03 57 00 b1 ab000000 00000000 00000000", 0, 0);
-        faultIs("()V", 1, 0, "03 57 b1 ab 00000000 00000000", 0, 0);
-        faultIs("()V", 1, 0, "03 57 b1 ab 00000000 ffffffff", 2, 3);
-        faultIs("()V", 1, 0, "03 57 b1 ab 00000000 0000003d" + "00".repeat(280), 2, 3);
-        faultIs("()V", 1, 0, "03 57 b1 ab 00000000 00000002 00000001 00000000 00000001 00000000", 2, 3);
-        faultIs("()V", 1, 0, "03 57 b1 ab 00000000 00000002 00000001 00000000 00000000 00000000", 2, 3);
-        faultIs("()V", 1, 0, "03 57 b1 ab 00000000 00000002 00000001 00000000 80000000 00000000", 2, 3);
-        faultIs("()V", 1, 0, "03 57 b1 ab 00000000 00000002 80000000 00000000 7fffffff 00000000", 0, 0);
-        faultIs("()V", 1, 0, "03 57 b1 ab 00000000 00000001 80000000 00000001", 2, 3);
-        faultIs("()V", 1, 0, "03 57 b1 ab 00000001 00000001 80000000 00000000", 2, 3);
-        faultIs("()V", 1, 0, "03 57 b1 ab 7fffffff 00000000", 2, 3);
-        faultIs("()V", 1, 0, "03 57 b1 ab 80000000 00000000", 2, 3);
+        Mills.codeIs("()V", 1, 0, "03 57 00 b1 ab000000 00000000 00000000", 0, 0);
+        Mills.codeIs("()V", 1, 0, "03 57 b1 ab 00000000 00000000", 0, 0);
+        Mills.codeIs("()V", 1, 0, "03 57 b1 ab 00000000 ffffffff", 2, 3);
+        Mills.codeIs("()V", 1, 0, "03 57 b1 ab 00000000 0000003d" + "00".repeat(280), 2, 3);
+        Mills.codeIs("()V", 1, 0, "03 57 b1 ab 00000000 00000002 00000001 00000000 00000001 00000000", 2, 3);
+        Mills.codeIs("()V", 1, 0, "03 57 b1 ab 00000000 00000002 00000001 00000000 00000000 00000000", 2, 3);
+        Mills.codeIs("()V", 1, 0, "03 57 b1 ab 00000000 00000002 00000001 00000000 80000000 00000000", 2, 3);
+        Mills.codeIs("()V", 1, 0, "03 57 b1 ab 00000000 00000002 80000000 00000000 7fffffff 00000000", 0, 0);
+        Mills.codeIs("()V", 1, 0, "03 57 b1 ab 00000000 00000001 80000000 00000001", 2, 3);
+        Mills.codeIs("()V", 1, 0, "03 57 b1 ab 00000001 00000001 80000000 00000000", 2, 3);
+        Mills.codeIs("()V", 1, 0, "03 57 b1 ab 7fffffff 00000000", 2, 3);
+        Mills.codeIs("()V", 1, 0, "03 57 b1 ab 80000000 00000000", 2, 3);
     }
 
     private static void calls() {
@@ -386,105 +378,105 @@ public final class FaultTest {
     }
 
     private static void distances() {
-        faultIs("()V", 1, 0, "a7 0003 b1", 0, 0);
-        faultIs("()V", 1, 0, "a7 0004 b1", 2, 0);
-        faultIs("()V", 1, 0, "a7 0001 b1", 2, 0);
-        faultIs("()V", 1, 0, "a7 ffff b1", 2, 0);
-        faultIs("()V", 1, 0, "00 a7 ffff b1", 0, 0);
-        faultIs("()V", 1, 0, "00 a7 fffe b1", 2, 1);
-        faultIs("()V", 1, 0, "a7 7fff b1", 2, 0);
-        faultIs("()V", 1, 0, "a7 8000 b1", 2, 0);
+        Mills.codeIs("()V", 1, 0, "a7 0003 b1", 0, 0);
+        Mills.codeIs("()V", 1, 0, "a7 0004 b1", 2, 0);
+        Mills.codeIs("()V", 1, 0, "a7 0001 b1", 2, 0);
+        Mills.codeIs("()V", 1, 0, "a7 ffff b1", 2, 0);
+        Mills.codeIs("()V", 1, 0, "00 a7 ffff b1", 0, 0);
+        Mills.codeIs("()V", 1, 0, "00 a7 fffe b1", 2, 1);
+        Mills.codeIs("()V", 1, 0, "a7 7fff b1", 2, 0);
+        Mills.codeIs("()V", 1, 0, "a7 8000 b1", 2, 0);
         // Into a wide instruction, and from what no way reaches.
-        faultIs("(I)V", 1, 1, "c4 15 0000 57 b1 99 fffb", 2, 6);
-        faultIs("(I)V", 1, 1, "c4 15 0000 57 b1 99 fffa", 0, 0);
+        Mills.codeIs("(I)V", 1, 1, "c4 15 0000 57 b1 99 fffb", 2, 6);
+        Mills.codeIs("(I)V", 1, 1, "c4 15 0000 57 b1 99 fffa", 0, 0);
         // All that is not a distance comes first, from the beginning.
-        faultIs("()V", 1, 0, "a7 0001 b1 ff", 2, 4);
+        Mills.codeIs("()V", 1, 0, "a7 0001 b1 ff", 2, 4);
         FileMaker maker = new FileMaker().method("f", "()V", 0, 0, "a7 0001 b1").method("g", "()V", 0, 0, "ff");
         Mills.loadIs("the first METHOD that has one", maker.file(), -2, maker.codePlace(0));
     }
 
     private static void flows() {
-        faultIs("()V", 1, 0, "00", 3, 0);
-        faultIs("()V", 1, 0, "03 57", 3, 1);
-        faultIs("()V", 0, 0, "03 57 b1", 3, 0);
-        faultIs("()V", 1, 0, "57 b1", 3, 0);
-        faultIs("()V", 1, 0, "03 03 b1", 3, 1);
-        faultIs("()V", 2, 0, "03 03 b1", 0, 0);
-        faultIs("()V", 3, 0, "03 03 5c b1", 3, 2);
-        faultIs("()V", 4, 0, "03 03 5c b1", 0, 0);
-        faultIs("()V", 2, 0, "03 03 5a b1", 3, 2);
-        faultIs("()V", 3, 0, "03 03 5a b1", 0, 0);
-        faultIs("()V", 1, 0, "03 59 b1", 3, 1);
-        faultIs("()V", 3, 0, "03 5a b1", 3, 1);
-        faultIs("()V", 4, 0, "03 5c b1", 3, 1);
-        faultIs("()V", 2, 0, "03 5f b1", 3, 1);
-        faultIs("()V", 1, 1, "1a 57 b1", 3, 0);
-        faultIs("(I)V", 1, 1, "2a 57 b1", 3, 0);
-        faultIs("([I)V", 1, 1, "1a 57 b1", 3, 0);
-        faultIs("([I)V", 1, 1, "2a 57 b1", 0, 0);
-        faultIs("()V", 1, 1, "03 4b b1", 3, 1);
-        faultIs("()V", 1, 1, "01 3b b1", 3, 1);
-        faultIs("()V", 1, 1, "84 0001 b1", 3, 0);
-        faultIs("([I)V", 1, 1, "84 0001 b1", 3, 0);
-        faultIs("(I)V", 1, 1, "84 0001 b1", 0, 0);
-        faultIs("(I)V", 1, 1, "01 4b 84 0001 b1", 3, 2);
+        Mills.codeIs("()V", 1, 0, "00", 3, 0);
+        Mills.codeIs("()V", 1, 0, "03 57", 3, 1);
+        Mills.codeIs("()V", 0, 0, "03 57 b1", 3, 0);
+        Mills.codeIs("()V", 1, 0, "57 b1", 3, 0);
+        Mills.codeIs("()V", 1, 0, "03 03 b1", 3, 1);
+        Mills.codeIs("()V", 2, 0, "03 03 b1", 0, 0);
+        Mills.codeIs("()V", 3, 0, "03 03 5c b1", 3, 2);
+        Mills.codeIs("()V", 4, 0, "03 03 5c b1", 0, 0);
+        Mills.codeIs("()V", 2, 0, "03 03 5a b1", 3, 2);
+        Mills.codeIs("()V", 3, 0, "03 03 5a b1", 0, 0);
+        Mills.codeIs("()V", 1, 0, "03 59 b1", 3, 1);
+        Mills.codeIs("()V", 3, 0, "03 5a b1", 3, 1);
+        Mills.codeIs("()V", 4, 0, "03 5c b1", 3, 1);
+        Mills.codeIs("()V", 2, 0, "03 5f b1", 3, 1);
+        Mills.codeIs("()V", 1, 1, "1a 57 b1", 3, 0);
+        Mills.codeIs("(I)V", 1, 1, "2a 57 b1", 3, 0);
+        Mills.codeIs("([I)V", 1, 1, "1a 57 b1", 3, 0);
+        Mills.codeIs("([I)V", 1, 1, "2a 57 b1", 0, 0);
+        Mills.codeIs("()V", 1, 1, "03 4b b1", 3, 1);
+        Mills.codeIs("()V", 1, 1, "01 3b b1", 3, 1);
+        Mills.codeIs("()V", 1, 1, "84 0001 b1", 3, 0);
+        Mills.codeIs("([I)V", 1, 1, "84 0001 b1", 3, 0);
+        Mills.codeIs("(I)V", 1, 1, "84 0001 b1", 0, 0);
+        Mills.codeIs("(I)V", 1, 1, "01 4b 84 0001 b1", 3, 2);
         for (int op : new int[] {0x60, 0x64, 0x68, 0x6c, 0x70, 0x78, 0x7a, 0x7c, 0x7e, 0x80, 0x82}) {
-            faultIs("()V", 2, 0, String.format("03 03 %02x 57 b1", op), 0, 0);
-            faultIs("()V", 2, 0, String.format("03 01 %02x 57 b1", op), 3, 2);
-            faultIs("()V", 2, 0, String.format("01 03 %02x 57 b1", op), 3, 2);
-            faultIs("()V", 2, 0, String.format("03 %02x 57 b1", op), 3, 1);
+            Mills.codeIs("()V", 2, 0, String.format("03 03 %02x 57 b1", op), 0, 0);
+            Mills.codeIs("()V", 2, 0, String.format("03 01 %02x 57 b1", op), 3, 2);
+            Mills.codeIs("()V", 2, 0, String.format("01 03 %02x 57 b1", op), 3, 2);
+            Mills.codeIs("()V", 2, 0, String.format("03 %02x 57 b1", op), 3, 1);
         }
         for (int op : new int[] {0x74, 0x91, 0x92, 0x93}) {
-            faultIs("()V", 1, 0, String.format("03 %02x 57 b1", op), 0, 0);
-            faultIs("()V", 1, 0, String.format("01 %02x 57 b1", op), 3, 1);
-            faultIs("()V", 1, 0, String.format("%02x 57 b1", op), 3, 0);
+            Mills.codeIs("()V", 1, 0, String.format("03 %02x 57 b1", op), 0, 0);
+            Mills.codeIs("()V", 1, 0, String.format("01 %02x 57 b1", op), 3, 1);
+            Mills.codeIs("()V", 1, 0, String.format("%02x 57 b1", op), 3, 0);
         }
         for (int op = 0x99; op <= 0x9e; op++) {
-            faultIs("()V", 1, 0, String.format("03 %02x 0003 b1", op), 0, 0);
-            faultIs("()V", 1, 0, String.format("01 %02x 0003 b1", op), 3, 1);
+            Mills.codeIs("()V", 1, 0, String.format("03 %02x 0003 b1", op), 0, 0);
+            Mills.codeIs("()V", 1, 0, String.format("01 %02x 0003 b1", op), 3, 1);
         }
         for (int op = 0x9f; op <= 0xa6; op++) {
-            faultIs("()V", 2, 0, String.format("03 03 %02x 0003 b1", op), op < 0xa5 ? 0 : 3, 2);
-            faultIs("()V", 2, 0, String.format("01 01 %02x 0003 b1", op), op < 0xa5 ? 3 : 0, 2);
-            faultIs("()V", 2, 0, String.format("01 03 %02x 0003 b1", op), 3, 2);
-            faultIs("()V", 2, 0, String.format("03 01 %02x 0003 b1", op), 3, 2);
+            Mills.codeIs("()V", 2, 0, String.format("03 03 %02x 0003 b1", op), op < 0xa5 ? 0 : 3, 2);
+            Mills.codeIs("()V", 2, 0, String.format("01 01 %02x 0003 b1", op), op < 0xa5 ? 3 : 0, 2);
+            Mills.codeIs("()V", 2, 0, String.format("01 03 %02x 0003 b1", op), 3, 2);
+            Mills.codeIs("()V", 2, 0, String.format("03 01 %02x 0003 b1", op), 3, 2);
         }
         for (int op = 0xc6; op <= 0xc7; op++) {
-            faultIs("()V", 1, 0, String.format("01 %02x 0003 b1", op), 0, 0);
-            faultIs("()V", 1, 0, String.format("03 %02x 0003 b1", op), 3, 1);
+            Mills.codeIs("()V", 1, 0, String.format("01 %02x 0003 b1", op), 0, 0);
+            Mills.codeIs("()V", 1, 0, String.format("03 %02x 0003 b1", op), 3, 1);
         }
-        faultIs("([I)V", 2, 1, "2a 03 2e 57 b1", 0, 0);
-        faultIs("([I)V", 2, 1, "2a 01 2e 57 b1", 3, 2);
-        faultIs("([I)V", 2, 1, "03 03 2e 57 b1", 3, 2);
-        faultIs("([I)V", 3, 1, "2a 03 03 4f b1", 0, 0);
-        faultIs("([I)V", 3, 1, "2a 03 01 4f b1", 3, 3);
-        faultIs("([I)V", 3, 1, "2a 01 03 4f b1", 3, 3);
-        faultIs("([I)V", 3, 1, "03 03 03 4f b1", 3, 3);
-        faultIs("([I)V", 3, 1, "03 03 4f b1", 3, 2);
-        faultIs("()V", 1, 0, "03 bc 0a be bc 0a 57 b1", 0, 0);
-        faultIs("()V", 1, 0, "01 bc 0a 57 b1", 3, 1);
-        faultIs("()V", 1, 0, "03 be 57 b1", 3, 1);
+        Mills.codeIs("([I)V", 2, 1, "2a 03 2e 57 b1", 0, 0);
+        Mills.codeIs("([I)V", 2, 1, "2a 01 2e 57 b1", 3, 2);
+        Mills.codeIs("([I)V", 2, 1, "03 03 2e 57 b1", 3, 2);
+        Mills.codeIs("([I)V", 3, 1, "2a 03 03 4f b1", 0, 0);
+        Mills.codeIs("([I)V", 3, 1, "2a 03 01 4f b1", 3, 3);
+        Mills.codeIs("([I)V", 3, 1, "2a 01 03 4f b1", 3, 3);
+        Mills.codeIs("([I)V", 3, 1, "03 03 03 4f b1", 3, 3);
+        Mills.codeIs("([I)V", 3, 1, "03 03 4f b1", 3, 2);
+        Mills.codeIs("()V", 1, 0, "03 bc 0a be bc 0a 57 b1", 0, 0);
+        Mills.codeIs("()V", 1, 0, "01 bc 0a 57 b1", 3, 1);
+        Mills.codeIs("()V", 1, 0, "03 be 57 b1", 3, 1);
         String[][] returns = {{"()V", "b1"}, {"()I", "ac"}, {"()[I", "b0"}};
         for (String[] one : returns) {
             for (String[] other : returns) {
                 for (String push : new String[] {"00", "03", "01"}) {
                     boolean fits = one[0].equals("()V") || push.equals(one[0].equals("()I") ? "03" : "01");
-                    faultIs(one[0], 1, 0, push + other[1], one == other && fits ? 0 : 3, 1);
+                    Mills.codeIs(one[0], 1, 0, push + other[1], one == other && fits ? 0 : 3, 1);
                 }
             }
         }
-        faultIs("()V", 1, 0, "01 ab 0000 00000010 00000000 b1", 2, 1);
-        faultIs("()V", 1, 0, "01 ab 0000 0000000b 00000000 b1", 3, 1);
-        faultIs("()V", 1, 0, "03 ab 0000 0000000b 00000000 b1", 0, 0);
+        Mills.codeIs("()V", 1, 0, "01 ab 0000 00000010 00000000 b1", 2, 1);
+        Mills.codeIs("()V", 1, 0, "01 ab 0000 0000000b 00000000 b1", 3, 1);
+        Mills.codeIs("()V", 1, 0, "03 ab 0000 0000000b 00000000 b1", 0, 0);
         // Ways meet with other stacks: at the instruction that is looked at, the lowest first.
-        faultIs("(I)V", 1, 1, "1a 99 0004 03 b1", 3, 4);
-        faultIs("(I)V", 1, 1, "1a 99 0004 00 b1", 0, 0);
-        faultIs("(I)V", 1, 1, "03 a7 ffff", 3, 1);
-        faultIs("(I)V", 2, 1, "03 a7 ffff", 3, 1);
-        faultIs("(I)I", 1, 1, "1a 99 0007 03 a7 0004 01 ac", 3, 8);
+        Mills.codeIs("(I)V", 1, 1, "1a 99 0004 03 b1", 3, 4);
+        Mills.codeIs("(I)V", 1, 1, "1a 99 0004 00 b1", 0, 0);
+        Mills.codeIs("(I)V", 1, 1, "03 a7 ffff", 3, 1);
+        Mills.codeIs("(I)V", 2, 1, "03 a7 ffff", 3, 1);
+        Mills.codeIs("(I)I", 1, 1, "1a 99 0007 03 a7 0004 01 ac", 3, 8);
         // A LOCAL that differs is none, and the FAULT is found when its loop is looked at again.
-        faultIs("(II)V", 1, 2, "1a 57 01 4b 1b 99 fffb b1", 3, 0);
-        faultIs("(II)V", 1, 2, "03 57 01 4b 1b 99 fffb b1", 0, 0);
+        Mills.codeIs("(II)V", 1, 2, "1a 57 01 4b 1b 99 fffb b1", 3, 0);
+        Mills.codeIs("(II)V", 1, 2, "03 57 01 4b 1b 99 fffb b1", 0, 0);
         // b8 takes what its descriptor says, the last one on top.
         FileMaker maker = new FileMaker();
         int call = maker.own("g", "(I[I)[I");

@@ -6,7 +6,7 @@ public final class RegisterFileTest {
         golden();
         for (int seed = 0; seed < 2500; seed++) {
             ProgramMaker program = new ProgramMaker(seed + 500000);
-            compare("program " + seed, program.file(), "T", "java/lang/Object");
+            ReferenceFile.compare("program " + seed, program.file(), "T", "java/lang/Object");
         }
         names();
         large();
@@ -37,64 +37,26 @@ public final class RegisterFileTest {
         Due.is("out(MIN)", mill.out(Integer.MIN_VALUE), -1);
     }
 
-    private static void compare(String name, byte[] file, String own, String above) throws Exception {
-        RegisterMill mill = new RegisterMill();
-        int answer = Mills.load(mill, file);
-        if (answer < 0) {
-            Due.is(name + ": size()", mill.size(), 0);
-            return;
-        }
-        Reference reference = new Reference(file);
-        reference.read();
-        int[][] units = new int[answer][];
-        int[][] begins = new int[answer][];
-        boolean makesArrays = false;
-        for (int m = 0; m < answer; m++) {
-            Reference.Body body = reference.bodies.get(m);
-            units[m] = new int[mill.method(m, 7)];
-            for (int i = 0; i < units[m].length; i++) {
-                units[m][i] = mill.unit(m, i);
-            }
-            begins[m] = new int[body.code.length];
-            for (int pc : body.states.keySet()) {
-                begins[m][pc] = mill.state(m, pc, 2);
-                makesArrays |= (body.code[pc] & 0xff) == 0xbc;
-            }
-        }
-        ReferenceFile due = new ReferenceFile(own, above, reference.bodies, units);
-        due.begins = begins;
-        byte[] all = due.file(makesArrays);
-        byte[] got = Mills.out(mill);
-        Due.is(name + ": size()", mill.size(), all.length);
-        Due.is(name + ": first other byte", Arrays.mismatch(got, all), -1);
-        for (int m = 0; m < answer; m++) {
-            Due.is(name + ": number", mill.method(m, 5), due.numberOf(m));
-            int place = mill.method(m, 9);
-            Due.is(name + ": first unit", got[place] & 0xff | (got[place + 1] & 0xff) << 8, units[m][0]);
-        }
-        Due.is(name + ": check()", mill.check(), 1);
-    }
-
     private static void names() throws Exception {
         // Names that are STRINGS for other reasons, too, or begin one another.
         FileMaker maker = new FileMaker("I", "V");
         maker.method("I", "()V", 1, 0, "b1").method("V", "()V", 0, 0, "b1").method("VI", "(I)V", 1, 1, "b1").method("VIL", "(I[I)V", 0, 2, "b1");
         maker.method("L", "()[I", 1, 0, "01 b0").method("a", "()V", 0, 0, "b1").method("A", "()V", 0, 0, "b1").method("_", "()I", 1, 0, "03 ac");
-        compare("names", maker.file(), "I", "V");
+        ReferenceFile.compareRight("names", maker.file(), "I", "V");
         // A METHOD's name I needs no TYPE I.
         maker = new FileMaker("Z", "a/b").method("I", "()V", 0, 0, "b1");
-        compare("name I", maker.file(), "Z", "a/b");
+        ReferenceFile.compareRight("name I", maker.file(), "Z", "a/b");
         // The same name with PROTOS in their order: by what they return, then by their arguments.
         maker = new FileMaker("a0", "a");
         String[] descriptors = {"([I)V", "(I)V", "()V", "(II)V", "([I)I", "()[I", "(I[I)I", "(I)I"};
         for (String one : descriptors) {
             maker.method("f", one, 1, 3, one.endsWith("V") ? "b1" : one.endsWith("[I") ? "01 b0" : "03 ac");
         }
-        compare("protos", maker.file(), "a0", "a");
+        ReferenceFile.compareRight("protos", maker.file(), "a0", "a");
         String forty = "abcdefghij/bcdefghij/bcdefghij/bcdefghij";
         maker = new FileMaker(forty, "_" + forty.substring(1));
         maker.method("abcdefghijabcdefghij0123456789", "(IIIIIIII)V", 0, 8, "b1").method("abcdefghijabcdefghij012345678", "(IIIIIIII)I", 1, 8, "03 ac");
-        compare("long names", maker.file(), forty, "_" + forty.substring(1));
+        ReferenceFile.compareRight("long names", maker.file(), forty, "_" + forty.substring(1));
     }
 
     private static void large() throws Exception {
@@ -104,7 +66,7 @@ public final class RegisterFileTest {
             maker.method("f" + m, "(IIIIIIII)V", 40, 40, "03 01" + "5f".repeat(297) + "b1");
         }
         byte[] file = maker.file();
-        compare("large", file, "T", "java/lang/Object");
+        ReferenceFile.compareRight("large", file, "T", "java/lang/Object");
         RegisterMill mill = Mills.with(file);
         Due.is("units", mill.method(7, 7), 16 + 4 + 6 * 297 + 1);
         Due.is("REGISTERS", mill.method(7, 6), 90);
@@ -118,7 +80,7 @@ public final class RegisterFileTest {
             code.append(" ffffffff");
         }
         file = FileMaker.one("(I)V", 1, 1, code.toString());
-        compare("60 cases", file, "T", "java/lang/Object");
+        ReferenceFile.compareRight("60 cases", file, "T", "java/lang/Object");
         mill = Mills.with(file);
         Due.is("units", mill.method(0, 7), 1 + 1 + 4 + 4 + 120);
     }

@@ -39,6 +39,13 @@ final class Mills {
         Due.is(what + ": place()", mill.place(), place);
     }
 
+    /** One METHOD's code with a FAULT of a kind (0: none) at a byte of it. */
+    static void codeIs(String descriptor, int stack, int locals, String hex, int kind, int pc) {
+        FileMaker maker = new FileMaker().method("f", descriptor, stack, locals, hex);
+        String what = descriptor + " " + stack + " " + locals + ": " + hex;
+        loadIs(what, maker.file(), kind == 0 ? 1 : -kind, kind == 0 ? -1 : maker.codePlace(0) + pc);
+    }
+
     static byte[] out(RegisterMill mill) {
         byte[] all = new byte[mill.size()];
         for (int i = 0; i < all.length; i++) {
@@ -54,5 +61,18 @@ final class Mills {
             text.append(i == 0 ? "" : " ").append(String.format("%04x", mill.unit(m, i)));
         }
         return text.toString();
+    }
+
+    /** The units of a file's one METHOD. */
+    static void unitsAre(String descriptor, int stack, int locals, String hex, String due) {
+        RegisterMill mill = new RegisterMill();
+        int answer = load(mill, FileMaker.one(descriptor, stack, locals, hex));
+        String got = answer == 1 ? units(mill, 0) : "load() " + answer + " at " + mill.place();
+        String what = descriptor + " " + stack + " " + locals + ": " + hex;
+        if (!got.equals(due)) {
+            System.out.println(what + "\n  got " + got + "\n  due " + due);
+        }
+        Due.that(what, got.equals(due));
+        Due.is(what + ": check()", mill.check(), 1);
     }
 }

@@ -226,15 +226,15 @@ final class Reference {
         }
     }
 
-    private static int u(Body body, int pc) {
+    static int u(Body body, int pc) {
         return body.code[pc] & 0xff;
     }
 
-    private static int s2(Body body, int pc) {
+    static int s2(Body body, int pc) {
         return (short) (u(body, pc) << 8 | u(body, pc + 1));
     }
 
-    private static int s4(Body body, int pc) {
+    static int s4(Body body, int pc) {
         return s2(body, pc) << 16 | s2(body, pc + 2) & 0xffff;
     }
 
@@ -329,7 +329,7 @@ final class Reference {
         return true;
     }
 
-    private Body called(Body body, int pc) {
+    Body called(Body body, int pc) {
         int i = s2(body, pc + 1) & 0xffff;
         if (!is(i, 10)) {
             return null;
@@ -347,8 +347,12 @@ final class Reference {
         return null;
     }
 
+    int intOf(int constant) {
+        return (Integer) constants[constant];
+    }
+
     /** The local that an instruction has to do with, or -1. */
-    private static int local(Body body, int pc) {
+    static int local(Body body, int pc) {
         int op = u(body, pc);
         if (op == 0xc4) {
             return s2(body, pc + 2) & 0xffff;
@@ -364,7 +368,7 @@ final class Reference {
         return -1;
     }
 
-    private static List<Integer> targets(Body body, int pc) {
+    static List<Integer> targets(Body body, int pc) {
         List<Integer> all = new ArrayList<>();
         int op = u(body, pc);
         int p = (pc + 4) / 4 * 4;

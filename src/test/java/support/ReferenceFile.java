@@ -5,27 +5,36 @@ import java.security.MessageDigest;
 import java.security.NoSuchAlgorithmException;
 import java.util.ArrayList;
 import java.util.Arrays;
+import java.util.HashMap;
 import java.util.List;
+import java.util.Map;
 import java.util.TreeSet;
 import java.util.zip.Adler32;
 
-/** Section 4 of the document told once more: the REGISTER FILE of METHODS whose units are known. */
+/** Section 4 of the document told once more: the REGISTER FILE, with units as ReferenceUnits tells them. */
 final class ReferenceFile {
     private final String own;
     private final String above;
     private final List<Reference.Body> bodies;
-    private final int[][] units;
+    private final List<ReferenceUnits> units = new ArrayList<>();
     private final ByteBuffer out = ByteBuffer.allocate(100000).order(ByteOrder.LITTLE_ENDIAN);
     private final List<String> strings = new ArrayList<>();
     private final List<String> types = new ArrayList<>();
     private final List<String> protos = new ArrayList<>();
     private final List<Integer> order = new ArrayList<>();
 
-    ReferenceFile(String own, String above, List<Reference.Body> bodies, int[][] units) {
+    ReferenceFile(String own, String above, Reference reference) {
         this.own = "L" + own + ";";
         this.above = "L" + above + ";";
-        this.bodies = bodies;
-        this.units = units;
+        bodies = reference.bodies;
+        sort();
+        Map<Reference.Body, Integer> numbers = new HashMap<>();
+        for (int m = 0; m < bodies.size(); m++) {
+            numbers.put(bodies.get(m), numberOf(m));
+        }
+        for (Reference.Body body : bodies) {
+            units.add(new ReferenceUnits(reference, body, numbers, types.indexOf("[I")));
+        }
     }
 
     private static List<String> arguments(String descriptor) {
@@ -58,12 +67,14 @@ final class ReferenceFile {
         return by != 0 ? by : Integer.compare(a.size(), b.size());
     }
 
-    private void sort(boolean makesArrays) {
+    private void sort() {
         TreeSet<String> needed = new TreeSet<>(List.of(own, above));
-        if (makesArrays) {
-            needed.add("[I");
-        }
         for (Reference.Body body : bodies) {
+            for (int pc : body.states.keySet()) {
+                if (Reference.u(body, pc) == 0xbc) {
+                    needed.add("[I");
+                }
+            }
             needed.add(result(body.descriptor));
             needed.addAll(arguments(body.descriptor));
         }
@@ -104,27 +115,11 @@ final class ReferenceFile {
         }
     }
 
-    private int outs(int m) {
-        int most = 0;
-        Reference.Body body = bodies.get(m);
-        for (int pc : body.states.keySet()) {
-            if ((body.code[pc] & 0xff) == 0xb8) {
-                most = Math.max(most, called(body, pc));
-            }
-        }
-        return most;
+    ReferenceUnits unitsOf(int m) {
+        return units.get(m);
     }
 
-    /** How many arguments a call has, as its 77 tells in the units. */
-    private int called(Reference.Body body, int pc) {
-        int m = bodies.indexOf(body);
-        return units[m][begins[m][pc]] >>> 8;
-    }
-
-    int[][] begins;
-
-    byte[] file(boolean makesArrays) throws NoSuchAlgorithmException {
-        sort(makesArrays);
+    byte[] file() throws NoSuchAlgorithmException {
         int stringIds = 0x70;
         int typeIds = stringIds + 4 * strings.size();
         int protoIds = typeIds + 4 * types.size();
@@ -139,8 +134,8 @@ final class ReferenceFile {
             Reference.Body body = bodies.get(m);
             int arguments = body.arguments.length();
             out.putShort((short) (2 + body.locals + body.stack + arguments)).putShort((short) arguments);
-            out.putShort((short) outs(m)).putShort((short) 0).putInt(0).putInt(units[m].length);
-            for (int unit : units[m]) {
+            out.putShort((short) units.get(m).mostPassed).putShort((short) 0).putInt(0).putInt(units.get(m).units.size());
+            for (int unit : units.get(m).units) {
                 out.putShort((short) unit);
             }
         }
@@ -214,5 +209,42 @@ final class ReferenceFile {
         sum.update(all, 12, length - 12);
         ByteBuffer.wrap(all).order(ByteOrder.LITTLE_ENDIAN).putInt(8, (int) sum.getValue());
         return all;
+    }
+
+    /** All that a mill tells of a file's units and REGISTER FILE, and all that is told here; whether there was no FAULT. */
+    static boolean compare(String name, byte[] file, String own, String above) throws Exception {
+        RegisterMill mill = new RegisterMill();
+        int answer = Mills.load(mill, file);
+        if (answer < 0) {
+            Due.is(name + ": size()", mill.size(), 0);
+            return false;
+        }
+        Reference reference = new Reference(file);
+        reference.read();
+        ReferenceFile due = new ReferenceFile(own, above, reference);
+        byte[] all = due.file();
+        byte[] got = Mills.out(mill);
+        Due.is(name + ": size()", mill.size(), all.length);
+        Due.is(name + ": first other byte", Arrays.mismatch(got, all), -1);
+        for (int m = 0; m < answer; m++) {
+            Due.is(name + ": number", mill.method(m, 5), due.numberOf(m));
+            ReferenceUnits code = due.unitsOf(m);
+            Due.is(name + ": units", mill.method(m, 7), code.units.size());
+            int place = mill.method(m, 9);
+            for (int i = 0; i < code.units.size(); i++) {
+                Due.is(name + ": unit " + i, mill.unit(m, i), code.units.get(i));
+                Due.is(name + ": in the file", got[place + 2 * i] & 0xff | (got[place + 2 * i + 1] & 0xff) << 8, code.units.get(i));
+            }
+            for (int pc : code.begins.keySet()) {
+                Due.is(name + ": begin " + pc, mill.state(m, pc, 2), code.begins.get(pc));
+            }
+        }
+        Due.is(name + ": check()", mill.check(), 1);
+        return true;
+    }
+
+    /** The same of a file that has no FAULT. */
+    static void compareRight(String name, byte[] file, String own, String above) throws Exception {
+        Due.that(name + ": has no FAULT", compare(name, file, own, above));
     }
 }
