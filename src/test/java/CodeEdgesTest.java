@@ -8,6 +8,7 @@ public final class CodeEdgesTest {
         endsWithin();
         locals();
         constants();
+        firstConstant();
         newArrays();
         fillBytes();
         lowAndHigh();
@@ -126,6 +127,28 @@ public final class CodeEdgesTest {
                 byte[] code = Bytes.of("b1" + String.format(form, i));
                 draft.raw("0 bytes", code).w("0 length", code.length).w("0 told", 12 + code.length);
                 Mills.loadIs(String.format(form, i), draft.file(), i <= 100 ? 1 : -2, i <= 100 ? -1 : draft.at("0 bytes") + 1);
+            }
+        }
+    }
+
+    /** CONSTANT 1 of all: an INT for 12 and 13, a METHOD for b8, in a file whose other CONSTANTS come behind it. */
+    private static void firstConstant() {
+        String[] codes = {"b1 12 01", "b1 13 0001", "b1 b8 0001", "b1 12 00", "b1 13 0000", "b1 b8 0000"};
+        for (int kind = 0; kind < 2; kind++) {
+            for (int i = 0; i < codes.length; i++) {
+                byte[] code = Bytes.of(codes[i]);
+                Bytes file = new Bytes().w(0xcafebabe).h(0, 0x31, 11);
+                if (kind == 0) {
+                    file.b(3).w(77);
+                } else {
+                    file.b(0xa).h(4, 9);
+                }
+                file.b(1).text("T").b(1).text("U").b(7).h(2).b(7).h(3).b(1).text("f").b(1).text("()V").b(1).text("Code").b(0xc).h(6, 7).b(3).w(5);
+                file.h(0x21, 4, 5, 0, 0, 1, 9, 6, 7, 1, 8).w(12 + code.length).h(1, 1).w(code.length);
+                int place = file.at();
+                file.raw(code).h(0, 0, 0);
+                boolean fits = kind == 0 ? i < 2 : i == 2;
+                Mills.loadIs(codes[i], file.all(), fits ? 1 : -2, fits ? -1 : place + 1);
             }
         }
     }

@@ -23,6 +23,7 @@ public final class FileEdgesTest {
         descriptors();
         argumentsAndLocals();
         sameMethods();
+        sameLowerByte();
         codeOnce();
         namesLikeCode();
         attributeBytes();
@@ -205,11 +206,32 @@ public final class FileEdgesTest {
         withMore().h("constant 11", 0).cutLacks("what lacks in the CONSTANTS before it", "second 16", 1);
         Draft draft = withMore().h("second 16", 0);
         Mills.loadIs("before what lacks behind them", Arrays.copyOf(draft.file(), draft.at("flags")), -1, draft.at("second 16"));
+        // The first CONSTANT of all, of each kind that tells others.
+        for (int kind = 0; kind < 3; kind++) {
+            for (int wrong = 0; wrong < 2; wrong++) {
+                Bytes first = kind == 0 ? new Bytes().b(7).h(2) : new Bytes().b(kind == 1 ? 0xc : 0xa).h(kind == 1 ? 2 : 4, kind == 1 ? 6 : 10);
+                Draft shifted = shifted(first.all());
+                if (wrong == 0) {
+                    shifted.right("CONSTANT 1 of kind " + kind);
+                } else {
+                    byte[] bytes = first.all();
+                    bytes[bytes.length - 1] = 1;
+                    shifted.raw("first", bytes).faultAt("CONSTANT 1 of kind " + kind, 10 + bytes.length - 2);
+                }
+            }
+        }
         // Names and descriptors in CONSTANTS that nothing asks for may be whatever.
         draft = new Draft();
         int odd = draft.addText("/; (");
         draft.addMethodConstant(draft.addType(odd), draft.addPair(odd, odd));
         draft.right("odd names that are not asked for");
+    }
+
+    /** A file with another CONSTANT before all those of a draft, whose numbers are one more then. */
+    private static Draft shifted(byte[] first) {
+        Draft draft = new Draft().before("tag 1", "first", first).h("constants", 12);
+        draft.h("constant 3", 2).h("constant 4", 3).h("constant 9", 6).h("second 9", 7).h("constant 10", 4).h("second 10", 10);
+        return draft.h("this", 4).h("above", 5).h("0 name", 6).h("0 descriptor", 7).h("0 code", 8);
     }
 
     private static void thisAndAbove() {
@@ -384,6 +406,22 @@ public final class FileEdgesTest {
         draft.addMethod(Draft.NAME, draft.addText("()[I"), 1, 0, Bytes.of("01 b0"));
         draft.addMethod(Draft.NAME, draft.addText("()I"), 1, 0, Bytes.of("03 ac"));
         draft.right("names and descriptors that begin alike");
+    }
+
+    /** Texts whose lengths differ by 256 are not the same, though the lower byte of their lengths is. */
+    private static void sameLowerByte() {
+        for (int more : new int[] {255, 256, 257}) {
+            for (int which = 0; which < 3; which++) {
+                Draft draft = new Draft();
+                int name = which == 0 ? draft.addText("f" + "x".repeat(more)) : Draft.NAME;
+                int descriptor = which == 1 ? draft.addText("()V" + "x".repeat(more)) : Draft.DESCRIPTOR;
+                int type = which == 2 ? draft.addType(draft.addText("T" + "x".repeat(more))) : Draft.OWN_TYPE;
+                int call = draft.addMethodConstant(type, draft.addPair(name, descriptor));
+                byte[] code = Bytes.of(String.format("b1 b800%02x", call));
+                draft.raw("0 bytes", code).w("0 length", code.length).w("0 told", 12 + code.length);
+                Mills.loadIs("a name that is longer by " + more, draft.file(), -2, draft.at("0 bytes") + 1);
+            }
+        }
     }
 
     private static void codeOnce() {

@@ -13,6 +13,11 @@ public final class RunEdgesTest {
         lessThanNone();
         indexes();
         nullFirst();
+        numbers();
+        shuffles();
+        farGotos();
+        addedToEachLocal();
+        cellsAreZeroAgain();
         byZero();
         divisions();
         shifts();
@@ -226,6 +231,109 @@ public final class RunEdgesTest {
         mill.arg(0, x);
         mill.arg(1, y);
         bothAre(mill, m, answer, due);
+    }
+
+    private static void numbers() {
+        int[] values = {-8, -9, 7, 8, 127, 128, 32767, 32768, -32768, -32769, 65535, 65536, -65536, 0x7fff0000, 0x12345678, 0x87654321, 0x00018000, MIN, MAX, 0};
+        for (int value : values) {
+            for (int locals : new int[] {0, 13, 14, 40}) {
+                FileMaker maker = new FileMaker();
+                int constant = maker.integer(value);
+                maker.method("f", "()I", 1, locals, String.format("12%02x ac", constant)).method("g", "()I", 1, locals, String.format("1300%02x ac", constant));
+                RegisterMill mill = Mills.with(maker.file());
+                bothAre(mill, 0, 1, value);
+                bothAre(mill, 1, 1, value);
+            }
+        }
+        String[] codes = {"02", "03", "04", "05", "06", "07", "08", "1080", "107f", "10ff", "118000", "117fff", "11ffff", "110080"};
+        int[] due = {-1, 0, 1, 2, 3, 4, 5, -128, 127, -1, -32768, 32767, -1, 128};
+        for (int i = 0; i < codes.length; i++) {
+            bothAre(Mills.with(FileMaker.one("()I", 1, 0, codes[i] + "ac")), 0, 1, due[i]);
+        }
+        bothAre(Mills.with(FileMaker.one("()[I", 1, 0, "01 b0")), 0, 2, 0);
+    }
+
+    /** What each of 59, 5a, 5c, 5f leaves, told as the digits of a number, over one that must stay. */
+    private static void shuffles() {
+        String[] ops = {"", "59", "5a", "5c", "5f", "57"};
+        int[] due = {823, 8233, 8323, 82323, 832, 82};
+        int[] left = {3, 4, 4, 5, 3, 2};
+        for (int i = 0; i < ops.length; i++) {
+            for (int locals : new int[] {3, 9, 10, 11, 12, 13, 14, 20}) {
+                // Stored in LOCALS from the top on, then put together.
+                StringBuilder code = new StringBuilder("1008 05 06" + ops[i]);
+                for (int k = left[i] - 1; k >= 0; k--) {
+                    code.append(String.format("36%02x", k));
+                }
+                code.append("03");
+                for (int k = 0; k < left[i]; k++) {
+                    code.append(String.format("100a 68 15%02x 60", k));
+                }
+                RegisterMill mill = Mills.with(FileMaker.one("()I", 5, Math.max(locals, left[i]), code + "ac"));
+                bothAre(mill, 0, 1, due[i]);
+            }
+        }
+    }
+
+    private static void farGotos() {
+        // Over k numbers: forward to the end, where 5 is returned, and back to the beginning, where it goes on to there.
+        for (int k = 118; k <= 132; k++) {
+            int end = 7 + 2 * k;
+            String forward = "1a 990006" + String.format("a7%04x", end - 4) + "0357".repeat(k) + "08 ac";
+            RegisterMill mill = Mills.with(FileMaker.one("(I)I", 1, 1, forward));
+            for (int x = 0; x < 2; x++) {
+                mill.arg(0, x);
+                bothAre(mill, 0, 1, 5);
+                Due.is("STEPS", mill.told(1), x == 0 ? 3 + k + 2 : 3 + 1 + 2);
+            }
+            // 0: 1a 99 to the end, LOCAL 0 becomes 0, k numbers, back to 0.
+            int at = 6 + 2 * k;
+            String back = "1a" + String.format("99%04x", at + 2) + "03 3b" + "0357".repeat(k) + String.format("a7%04x", -at & 0xffff) + "08 ac";
+            mill = Mills.with(FileMaker.one("(I)I", 1, 1, back));
+            mill.arg(0, 1);
+            bothAre(mill, 0, 1, 5);
+        }
+        // A GOTO to itself: 2a, for ever, with codes behind it that would return.
+        RegisterMill mill = Mills.with(new FileMaker().method("a", "(I)I", 1, 1, "1a 990006 a70000 08 ac").method("b", "()I", 1, 0, "06 ac")
+            .method("c", "()V", 0, 0, "00 00 a7fffe").file());
+        for (int kind = 0; kind < 2; kind++) {
+            mill.arg(0, 1);
+            Due.is("for ever", mill.run(kind, 0, 100000), -7);
+            Due.is("for ever", mill.run(kind, 2, 100000), -7);
+            Due.is("told(1)", mill.told(1), 100000);
+            mill.arg(0, 0);
+            runIs(mill, kind, 0, 1, 5);
+        }
+    }
+
+    private static void addedToEachLocal() {
+        for (int local = 0; local < 40; local++) {
+            String code = String.format("08 36%02x 84%02x64 c484%04xfc18 15%02x ac", local, local, local, local);
+            bothAre(Mills.with(FileMaker.one("()I", 1, 40, code)), 0, 1, 5 + 100 - 1000);
+        }
+    }
+
+    private static void cellsAreZeroAgain() {
+        RegisterMill mill = maker(1);
+        for (int kind = 0; kind < 2; kind++) {
+            mill.make(5);
+            for (int i = 0; i < 5; i++) {
+                mill.put(1, i, 9);
+            }
+            mill.clear();
+            mill.arg(0, 5);
+            runIs(mill, kind, 0, 2, 1);
+            for (int i = 0; i < 5; i++) {
+                Due.is("get(1, " + i + ")", mill.get(1, i), 0);
+                mill.put(1, i, 9);
+            }
+            mill.clear();
+            Due.is("make(5)", mill.make(5), 1);
+            for (int i = 0; i < 5; i++) {
+                Due.is("get(1, " + i + ")", mill.get(1, i), 0);
+            }
+            mill.clear();
+        }
     }
 
     private static void byZero() {

@@ -33,10 +33,26 @@ final class Mills {
         return mill;
     }
 
+    /** The file that was looked at last, whole or with a FAULT. */
+    private static byte[] before = new byte[0];
+
+    /** In a new object, and in one that has loaded another file, or has refused one, before. */
     static void loadIs(String what, byte[] file, int answer, int place) {
         RegisterMill mill = new RegisterMill();
         Due.is(what + ": load()", load(mill, file), answer);
         Due.is(what + ": place()", mill.place(), place);
+        if (before.length + file.length < 8000) {
+            RegisterMill used = new RegisterMill();
+            int first = load(used, before);
+            int size = used.size();
+            Due.is(what + ": load() behind another one", load(used, file), answer);
+            Due.is(what + ": place() behind another one", used.place(), place);
+            Due.is(what + ": size()", used.size(), answer > 0 ? mill.size() : first > 0 ? size : 0);
+            for (int i = 8; i < 32 && answer > 0; i++) {
+                Due.is(what + ": sums of the file", used.out(i), mill.out(i));
+            }
+        }
+        before = file;
     }
 
     /** One METHOD's code with a FAULT of a kind (0: none) at a byte of it. */
