@@ -6,7 +6,9 @@ import java.lang.reflect.Modifier;
 import java.nio.file.Files;
 import java.nio.file.Path;
 import java.util.ArrayList;
+import java.util.HashMap;
 import java.util.List;
+import java.util.Map;
 import java.util.Random;
 import java.util.TreeSet;
 import java.util.regex.Pattern;
@@ -22,6 +24,8 @@ public final class FormTest {
     public static void main(String[] args) throws Exception {
         face();
         source();
+        library();
+        callsWithin();
         for (int seed = 0; seed < 400; seed++) {
             chanceCalls(seed);
         }
@@ -88,6 +92,91 @@ public final class FormTest {
             }
             Due.that("short: " + lines[start], !lines[i].matches("( {4}| {8})\\}") || i - start <= 60 || lines[i].startsWith("    }"));
         }
+    }
+
+    /** Rules 4 and 5: only what the list has, and static fields that are constants. */
+    private static void library() throws Exception {
+        String text = Files.readString(Path.of("src/main/java/RegisterMill.java"));
+        String code = text.replaceAll("(?s)/\\*.*?\\*/", "").replaceAll("//[^\n]*", "");
+        List<String> allowed = List.of("Arrays.fill", "System.arraycopy", "Math.min", "Math.max");
+        java.util.regex.Matcher used = Pattern.compile("\\b(Arrays|System|Math|Integer|Long|String|StringBuilder|List|ArrayList|Object|Character)\\b(\\.\\w+)?")
+            .matcher(code.replace("import java.util.Arrays;", ""));
+        while (used.find()) {
+            Due.that("used: " + used.group(), allowed.contains(used.group()));
+        }
+        List<Class<?>> all = new ArrayList<>(List.of(RegisterMill.class.getDeclaredClasses()));
+        all.add(RegisterMill.class);
+        for (Class<?> one : all) {
+            for (Field field : one.getDeclaredFields()) {
+                if (Modifier.isStatic(field.getModifiers())) {
+                    Class<?> type = field.getType();
+                    Due.that("constant " + field, Modifier.isFinal(field.getModifiers())
+                        && (type == int.class || type == long.class || type == boolean.class || type == int[].class));
+                }
+            }
+            for (Constructor<?> constructor : one.getDeclaredConstructors()) {
+                Due.that("few parameters: " + constructor, constructor.getParameterCount() <= 7);
+            }
+            for (Method method : one.getDeclaredMethods()) {
+                Due.that("few parameters: " + method, method.getParameterCount() <= 7);
+            }
+        }
+        Due.that("no initialiser block", !Pattern.compile("\\bstatic\\s*\\{").matcher(code).find());
+        Due.that("no cast to a class", !Pattern.compile("\\((StackFile|Method|Flow|RegisterCode|Names|RegisterFile|Digest|Heap|StackRunner|RegisterRunner|Checker)\\)")
+            .matcher(code).find());
+    }
+
+    /** Rules 8 and 11: no recursion, and calls at most eight deep, as javap tells them. */
+    private static void callsWithin() throws Exception {
+        Path classes = Path.of(RegisterMill.class.getProtectionDomain().getCodeSource().getLocation().toURI());
+        List<String> arguments = new ArrayList<>(List.of("-c", "-p"));
+        try (java.nio.file.DirectoryStream<Path> files = Files.newDirectoryStream(classes, "RegisterMill*.class")) {
+            for (Path file : files) {
+                arguments.add(file.toString());
+            }
+        }
+        java.io.StringWriter text = new java.io.StringWriter();
+        java.io.PrintWriter out = new java.io.PrintWriter(text);
+        int answer = java.util.spi.ToolProvider.findFirst("javap").orElseThrow().run(out, out, arguments.toArray(new String[0]));
+        Due.is("javap", answer, 0);
+        Map<String, TreeSet<String>> calls = new HashMap<>();
+        String owner = "";
+        String method = "";
+        for (String line : text.toString().split("\n")) {
+            java.util.regex.Matcher head = Pattern.compile("class (RegisterMill[\\w$]*) ?.*\\{").matcher(line);
+            java.util.regex.Matcher name = Pattern.compile("^  [\\w .$\\[\\]]*?([\\w$]+)\\(.*\\);$").matcher(line);
+            java.util.regex.Matcher call = Pattern.compile("invoke\\w+ .*// Method (?:([\\w$/]+)\\.)?\"?(\\w+|<init>)\"?:").matcher(line);
+            if (head.find()) {
+                owner = head.group(1);
+            } else if (name.find()) {
+                method = owner + "." + name.group(1);
+                calls.putIfAbsent(method, new TreeSet<>());
+            } else if (call.find()) {
+                String to = call.group(1) == null ? owner : call.group(1);
+                if (to.startsWith("RegisterMill")) {
+                    calls.get(method).add(to + "." + (call.group(2).equals("<init>") ? to : call.group(2)));
+                }
+            }
+        }
+        Due.that("methods: " + calls.size(), calls.size() > 100);
+        for (String one : calls.keySet()) {
+            int deep = depthOf(one, calls, new ArrayList<>());
+            Due.that(one + " goes " + deep + " deep", deep <= 8);
+        }
+    }
+
+    private static int depthOf(String method, Map<String, TreeSet<String>> calls, List<String> open) {
+        if (open.contains(method)) {
+            Due.that("recursion: " + open, false);
+            return 0;
+        }
+        open.add(method);
+        int deep = 0;
+        for (String one : calls.getOrDefault(method, new TreeSet<>())) {
+            deep = Math.max(deep, depthOf(one, calls, open));
+        }
+        open.remove(method);
+        return deep + 1;
     }
 
     private static int some(Random chance) {

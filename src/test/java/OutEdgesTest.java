@@ -367,7 +367,7 @@ public final class OutEdgesTest {
             // Six large codes, then one that grows by two units at a time, then the last one, whose place is looked at.
             FileMaker maker = new FileMaker();
             for (int m = 0; m < 6; m++) {
-                maker.method("a" + m, "()V", 40, 40, "03 01" + "5f".repeat(215) + "b1");
+                maker.method("a" + m, "()V", 40, 40, "03 01" + "5f".repeat(217) + "b1");
             }
             maker.method("b", "()V", 40, 40, "03 57".repeat(pairs) + "b1").method("c", "()V", 0, 0, "b1");
             RegisterMill mill = Mills.with(maker.file());
