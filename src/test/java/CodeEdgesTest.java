@@ -11,6 +11,7 @@ public final class CodeEdgesTest {
         firstConstant();
         newArrays();
         fillBytes();
+        fillFromTheBeginning();
         lowAndHigh();
         howMany();
         keys();
@@ -176,6 +177,25 @@ public final class CodeEdgesTest {
                 // One byte more: its words are others then, and no distance of them fits.
                 Mills.codeIs("()V", 1, 0, String.format(code, back + "00", -before, -before), 2, before);
             }
+        }
+    }
+
+    /** A multiple of 4 from the code's beginning, wherever in the file that lies. */
+    private static void fillFromTheBeginning() {
+        boolean[] seen = new boolean[4];
+        for (int n = 1; n <= 4; n++) {
+            for (int before = 1; before <= 4; before++) {
+                for (int fill = 0; fill < 4; fill++) {
+                    FileMaker maker = new FileMaker("T".repeat(n), "U");
+                    maker.method("f", "()V", 1, 0, "b1" + "00".repeat(before - 1) + "ab" + "00".repeat(fill) + String.format("%08x 00000000", -before));
+                    seen[maker.codePlace(0) % 4] = true;
+                    boolean fits = fill == 3 - before % 4;
+                    Mills.loadIs(fill + " bytes 00 behind " + before, maker.file(), fits ? 1 : -2, fits ? -1 : maker.codePlace(0) + before);
+                }
+            }
+        }
+        for (int rest = 0; rest < 4; rest++) {
+            Due.that("a code at a rest of " + rest, seen[rest]);
         }
     }
 
