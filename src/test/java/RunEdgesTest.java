@@ -34,7 +34,7 @@ public final class RunEdgesTest {
         mostSteps();
         refusedRuns();
         whatIsArrayForArguments();
-        othersAreZero();
+        nothingOfEarlierCalls();
         argumentsKeepTheirOrder();
         whatRunsLeave();
         whatIsTold();
@@ -728,8 +728,9 @@ public final class RunEdgesTest {
         Due.is("behind clear()", mill.run(1, 0, 10), -8);
     }
 
-    private static void othersAreZero() {
-        // A METHOD's REGISTERS are 0 when it is called, whatever was there: seen by its first store and load alone.
+    private static void nothingOfEarlierCalls() {
+        // FAULT 3 lets no code load a LOCAL before it stores there, so that the others are 0 cannot be seen by itself;
+        // what can be seen is that a call finds its arguments and nothing that an earlier one left.
         FileMaker maker = new FileMaker();
         int fill = maker.own("fill", "(II)I");
         int empty = maker.own("empty", "(I)I");
