@@ -20,6 +20,8 @@ public final class RegisterMill {
     /** A byte of stack code makes at most 6 units (5f of high registers), the arguments 16 more. */
     private static final int MOST_UNITS = 2400;
     private static final int MOST_FILE = 48000;
+    /** Two names of types, a name and a shorty of each METHOD, V, I, [I are 21. */
+    private static final int MOST_STRINGS = 32;
     private static final int MOST_REGISTERS = 2 + MOST_LOCALS + MOST_STACK + MOST_ARGUMENTS;
     private static final int HEAP_CELLS = 2000;
     private static final int CELLS_BESIDE = 2;
@@ -315,14 +317,7 @@ public final class RegisterMill {
     }
 
     public int check() {
-        if (loaded.methodCount == 0) {
-            return 1;
-        }
-        boolean right = checker.fileIsRight(registerFile);
-        for (int m = 0; m < loaded.methodCount; m++) {
-            right = right && checker.codeIsRight(loaded, registerFile, m);
-        }
-        return right ? 1 : 0;
+        return loaded.methodCount == 0 || checker.allIsRight(loaded, registerFile) ? 1 : 0;
     }
 
     /** Which of + - * / rest and or xor shl shr ushr (0 .. 10) a stack opcode is, or NONE. */
@@ -1618,8 +1613,8 @@ public final class RegisterMill {
     /** The STRINGS, TYPES, PROTOS and METHODS of a REGISTER FILE, in their orders. */
     private static final class Names {
         private final byte[] pool = new byte[2048];
-        private final int[] starts = new int[32];
-        final int[] lengths = new int[32];
+        private final int[] starts = new int[MOST_STRINGS];
+        final int[] lengths = new int[MOST_STRINGS];
         int strings;
         private int poolEnd;
         /** How many bytes of a text are spelled behind the pool's end, neither kept nor looked for yet. */
@@ -1898,7 +1893,7 @@ public final class RegisterMill {
         /** Where the code of a METHOD lies, by its number in this file. */
         private final int[] codesAt = new int[MOST_METHODS];
         private final int[] listsAt = new int[MOST_METHODS];
-        private final int[] stringsAt = new int[32];
+        private final int[] stringsAt = new int[MOST_STRINGS];
         private int methodCount;
         private int lists;
         private int firstList;
@@ -2712,12 +2707,24 @@ public final class RegisterMill {
     }
 
     /**
-     * Looks at what was made in the bytes of the REGISTER FILE, not in the rows that they came from: a register
-     * has a bit for "an int" and one for "an array", a 0 has both, and where ways meet only what both have stays.
+     * Goes through the REGISTER FILE from its first byte to its last and compares it with the STACK FILE and with
+     * the units that were made. Its code is followed, too: a register has a bit for "an int" and one for "an array",
+     * a 0 has both, and where ways meet only what both have stays.
      */
     private static final class Checker {
         private static final int ROW = 4;
-        private static final int NUMBERED_AT = 56;
+        private static final int MAP_TOLD_AT = 52;
+        /** Where the header tells of the STRINGS; eight bytes for each of the sections, in this order. */
+        private static final int SECTIONS_AT = 56;
+        private static final int STRINGS = 0;
+        private static final int TYPES = 1;
+        private static final int PROTOS = 2;
+        private static final int FIELDS = 3;
+        private static final int METHODS = 4;
+        private static final int CLASSES = 5;
+        private static final int DATA = 6;
+        /** How many bytes one of a section takes. */
+        private static final int[] SIZES = {4, 4, 12, 8, 8, 32};
 
         private final long[] rows = new long[ROW * MOST_UNITS];
         private final long[] now = new long[ROW];
@@ -2730,20 +2737,40 @@ public final class RegisterMill {
         private int firstUnit;
         private int units;
         private int registers;
+        private int mostPassed;
         private boolean wrong;
+        private int at;
+        /** A bit for each that something needs, since none may be there that nothing needs. */
+        private long usedStrings;
+        private long usedTypes;
+        private long usedProtos;
+        /** The TYPE that each 23 tells; NONE as long as there was no 23. */
+        private int arrayType;
 
-        boolean fileIsRight(RegisterFile made) {
+        boolean allIsRight(StackFile from, RegisterFile made) {
+            stackFile = from;
             file = made;
-            wrong = file.wordAt(0) != 0x0a786564 || file.wordAt(4) != 0x00353330
-                    || file.wordAt(RegisterFile.LENGTH_AT) != file.length || file.wordAt(36) != RegisterFile.HEADER
-                    || file.wordAt(40) != 0x12345678 || file.wordAt(RegisterFile.SUM_AT)
-                    != Digest.adler(file, RegisterFile.DIGEST_AT);
-            file.digest.reckon(file, RegisterFile.LENGTH_AT);
-            for (int i = 0; i < 20; i++) {
-                needThat(file.byteAt(RegisterFile.DIGEST_AT + i) == file.digest.byteOf(i));
+            wrong = false;
+            usedStrings = 0;
+            usedTypes = 0;
+            usedProtos = 0;
+            arrayType = NONE;
+            lookAtHeader();
+            lookAtSections();
+            for (int m = 0; m < from.methodCount && !wrong; m++) {
+                one = from.methods[m];
+                int place = placeOf(METHODS, made.names.numberOf[m]);
+                lookAtMethod(place);
+                lookAtProto(made.halfAt(place + 2));
+                lookAtCode(made.unitsPlace(m));
             }
-            lookAtOrder();
-            lookAtMap();
+            if (!wrong) {
+                lookAtClass();
+                lookAtUse();
+                lookAtOrder();
+                lookAtData();
+                lookAtMap();
+            }
             return !wrong;
         }
 
@@ -2751,26 +2778,173 @@ public final class RegisterMill {
             wrong = wrong || !right;
         }
 
+        private void needByte(int due) {
+            needThat(file.byteAt(at) == (due & 0xff));
+            at++;
+        }
+
+        private void needHalf(int due) {
+            needThat(file.halfAt(at) == due);
+            at += 2;
+        }
+
+        private void needWord(int due) {
+            needThat(file.wordAt(at) == due);
+            at += 4;
+        }
+
+        private void needMultipleOfFour() {
+            for (int i = 0; i < 3 && at % 4 != 0; i++) {
+                needByte(0);
+            }
+        }
+
         private int howMany(int section) {
-            return file.wordAt(NUMBERED_AT + 8 * section);
+            return file.wordAt(SECTIONS_AT + 8 * section);
         }
 
         private int where(int section) {
-            return file.wordAt(NUMBERED_AT + 8 * section + 4);
+            return file.wordAt(SECTIONS_AT + 8 * section + 4);
         }
 
-        /** STRINGS, TYPES and METHODS rise, each without a second one that is the same. */
+        private int placeOf(int section, int number) {
+            return where(section) + SIZES[section] * number;
+        }
+
+        private void lookAtHeader() {
+            at = 0;
+            needWord(0x0a786564);
+            needWord(0x00353330);
+            needWord(Digest.adler(file, RegisterFile.DIGEST_AT));
+            file.digest.reckon(file, RegisterFile.LENGTH_AT);
+            for (int i = 0; i < 20; i++) {
+                needByte(file.digest.byteOf(i));
+            }
+            needWord(file.length);
+            needWord(RegisterFile.HEADER);
+            needWord(0x12345678);
+            needWord(0);
+            needWord(0);
+        }
+
+        private void lookAtSections() {
+            int place = RegisterFile.HEADER;
+            for (int section = STRINGS; section < DATA; section++) {
+                needThat(howMany(section) >= 0 && howMany(section) <= MOST_STRINGS);
+                needThat(where(section) == (section == FIELDS ? 0 : place));
+                place += howMany(section) * SIZES[section];
+            }
+            needThat(howMany(FIELDS) == 0 && howMany(METHODS) == stackFile.methodCount && howMany(CLASSES) == 1);
+            needThat(where(DATA) == place && howMany(DATA) == file.length - place);
+        }
+
+        /** To the bytes of a STRING, which are to be so many. */
+        private void openString(int string, int due) {
+            needThat(string >= 0 && string < howMany(STRINGS));
+            usedStrings |= 1L << string;
+            at = file.wordAt(placeOf(STRINGS, string));
+            needByte(due);
+        }
+
+        private int stringOfType(int type) {
+            needThat(type >= 0 && type < howMany(TYPES));
+            usedTypes |= 1L << type;
+            return file.wordAt(placeOf(TYPES, type));
+        }
+
+        private void needText(int text) {
+            for (int i = 0; i < stackFile.textLength(text); i++) {
+                needByte(stackFile.textByte(text, i));
+            }
+        }
+
+        private void needTypeName(int type, int name) {
+            openString(stringOfType(type), stackFile.textLength(name) + 2);
+            needByte('L');
+            needText(name);
+            needByte(';');
+            needByte(0);
+        }
+
+        private void needType(int type, int due) {
+            openString(stringOfType(type), due == ARRAY ? 2 : 1);
+            if (due == ARRAY) {
+                needByte('[');
+            }
+            needByte(due == NOTHING ? 'V' : 'I');
+            needByte(0);
+        }
+
+        private void lookAtMethod(int place) {
+            needThat(file.halfAt(place) == file.wordAt(where(CLASSES)));
+            openString(file.wordAt(place + 4), stackFile.textLength(one.name));
+            needText(one.name);
+            needByte(0);
+        }
+
+        private void lookAtProto(int proto) {
+            needThat(proto < howMany(PROTOS));
+            usedProtos |= 1L << proto;
+            int place = placeOf(PROTOS, proto);
+            openString(file.wordAt(place), 1 + one.arguments);
+            needByte(Names.shortLetter(one.returns));
+            for (int i = 0; i < one.arguments; i++) {
+                needByte(Names.shortLetter(one.argumentTypes[i]));
+            }
+            needByte(0);
+            needType(file.wordAt(place + 4), one.returns);
+            needThat(argumentsOf(place) == one.arguments);
+            for (int i = 0; i < one.arguments; i++) {
+                needType(argumentOf(place, i), one.argumentTypes[i]);
+            }
+        }
+
+        /** How many arguments the type list of the PROTO at a place has. */
+        private int argumentsOf(int place) {
+            int list = file.wordAt(place + 8);
+            return list == 0 ? 0 : file.wordAt(list);
+        }
+
+        private int argumentOf(int place, int i) {
+            return file.halfAt(file.wordAt(place + 8) + 4 + 2 * i);
+        }
+
+        private void lookAtClass() {
+            int place = where(CLASSES);
+            needTypeName(file.wordAt(place), stackFile.ownName);
+            needTypeName(file.wordAt(place + 8), stackFile.aboveName);
+            at = place + 4;
+            needWord(1);
+            at = place + 12;
+            needWord(0);
+            needWord(0xffffffff);
+            needWord(0);
+            at = place + 28;
+            needWord(0);
+        }
+
+        private void lookAtUse() {
+            if (arrayType != NONE) {
+                needType(arrayType, ARRAY);
+            }
+            needThat(usedStrings == (1L << howMany(STRINGS)) - 1);
+            needThat(usedTypes == (1L << howMany(TYPES)) - 1);
+            needThat(usedProtos == (1L << howMany(PROTOS)) - 1);
+        }
+
+        /** All that is numbered rises, each without a second one that is the same. */
         private void lookAtOrder() {
-            for (int i = 1; i < Math.min(howMany(0), MOST_UNITS); i++) {
-                int place = where(0) + 4 * i;
-                needThat(stringRises(file.wordAt(place - 4), file.wordAt(place)));
+            for (int i = 1; i < howMany(STRINGS); i++) {
+                needThat(stringRises(file.wordAt(placeOf(STRINGS, i - 1)), file.wordAt(placeOf(STRINGS, i))));
             }
-            for (int i = 1; i < Math.min(howMany(1), MOST_UNITS); i++) {
-                int place = where(1) + 4 * i;
-                needThat(file.wordAt(place - 4) < file.wordAt(place));
+            for (int i = 1; i < howMany(TYPES); i++) {
+                needThat(file.wordAt(placeOf(TYPES, i - 1)) < file.wordAt(placeOf(TYPES, i)));
             }
-            for (int i = 1; i < Math.min(howMany(4), MOST_METHODS); i++) {
-                int place = where(4) + 8 * i;
+            for (int i = 1; i < howMany(PROTOS); i++) {
+                needThat(protoRises(placeOf(PROTOS, i - 1), placeOf(PROTOS, i)));
+            }
+            for (int i = 1; i < howMany(METHODS); i++) {
+                int place = placeOf(METHODS, i);
                 int name = file.wordAt(place + 4);
                 int before = file.wordAt(place - 4);
                 needThat(before < name || before == name && file.halfAt(place - 6) < file.halfAt(place + 2));
@@ -2788,36 +2962,123 @@ public final class RegisterMill {
             return file.byteAt(first) < file.byteAt(second);
         }
 
-        /** The MAP ends the file, and its places rise from the header to the MAP itself. */
-        private void lookAtMap() {
-            int map = file.wordAt(52);
-            int lines = Math.min(file.wordAt(map), RegisterFile.MAP_LINES + 1);
-            needThat(map % 4 == 0 && map + 4 + 12 * lines == file.length);
-            for (int i = 1; i < lines; i++) {
-                int place = map + 4 + 12 * i;
-                needThat(file.wordAt(place - 4) < file.wordAt(place + 8));
+        private boolean protoRises(int first, int second) {
+            if (file.wordAt(first + 4) != file.wordAt(second + 4)) {
+                return file.wordAt(first + 4) < file.wordAt(second + 4);
             }
-            needThat(file.wordAt(file.length - 4) == map);
+            int fewer = Math.min(MOST_ARGUMENTS, Math.min(argumentsOf(first), argumentsOf(second)));
+            for (int i = 0; i < fewer; i++) {
+                if (argumentOf(first, i) != argumentOf(second, i)) {
+                    return argumentOf(first, i) < argumentOf(second, i);
+                }
+            }
+            return argumentsOf(first) < argumentsOf(second);
         }
 
-        boolean codeIsRight(StackFile from, RegisterFile made, int m) {
-            stackFile = from;
-            file = made;
-            one = from.methods[m];
-            firstUnit = made.unitsPlace(m);
+        /** That all in DATA lies one behind the other, as section 4 orders it. */
+        private void lookAtData() {
+            at = where(DATA);
+            for (int number = 0; number < howMany(METHODS); number++) {
+                lookAtUnits(number);
+            }
+            for (int i = 0; i < howMany(PROTOS); i++) {
+                int place = placeOf(PROTOS, i);
+                if (file.wordAt(place + 8) != 0) {
+                    needMultipleOfFour();
+                    needThat(file.wordAt(place + 8) == at);
+                    at += 4 + 2 * argumentsOf(place);
+                }
+            }
+            for (int i = 0; i < howMany(STRINGS); i++) {
+                needThat(file.wordAt(placeOf(STRINGS, i)) == at);
+                at += 2 + file.byteAt(at);
+            }
+            lookAtClassData();
+        }
+
+        private void lookAtUnits(int number) {
+            int m = file.names.methodAt[number];
+            needMultipleOfFour();
+            needThat(file.codeAt(number) == at);
+            // REGISTERS, arguments and the most of a 77 were looked at together with the code.
+            at += 6;
+            needHalf(0);
+            needWord(0);
+            needWord(file.codes[m].count);
+            for (int i = 0; i < file.codes[m].count; i++) {
+                needHalf(file.codes[m].units[i]);
+            }
+        }
+
+        private void lookAtClassData() {
+            needThat(file.wordAt(where(CLASSES) + 24) == at);
+            needByte(0);
+            needByte(0);
+            needByte(howMany(METHODS));
+            needByte(0);
+            for (int number = 0; number < howMany(METHODS); number++) {
+                needByte(number == 0 ? 0 : 1);
+                needByte(9);
+                int rest = file.codeAt(number);
+                for (int i = 0; i < 5 && (i == 0 || rest != 0); i++) {
+                    needByte(rest >>> 7 == 0 ? rest : rest | 0x80);
+                    rest >>>= 7;
+                }
+            }
+        }
+
+        private void lookAtMap() {
+            int lists = 0;
+            int firstList = 0;
+            for (int i = howMany(PROTOS) - 1; i >= 0; i--) {
+                if (file.wordAt(placeOf(PROTOS, i) + 8) != 0) {
+                    lists++;
+                    firstList = file.wordAt(placeOf(PROTOS, i) + 8);
+                }
+            }
+            needMultipleOfFour();
+            int map = at;
+            needThat(file.wordAt(MAP_TOLD_AT) == map);
+            needWord(lists > 0 ? RegisterFile.MAP_LINES + 1 : RegisterFile.MAP_LINES);
+            needLine(0, 1, 0);
+            needLine(1, howMany(STRINGS), where(STRINGS));
+            needLine(2, howMany(TYPES), where(TYPES));
+            needLine(3, howMany(PROTOS), where(PROTOS));
+            needLine(5, howMany(METHODS), where(METHODS));
+            needLine(6, howMany(CLASSES), where(CLASSES));
+            needLine(0x2001, howMany(METHODS), where(DATA));
+            if (lists > 0) {
+                needLine(0x1001, lists, firstList);
+            }
+            needLine(0x2002, howMany(STRINGS), file.wordAt(where(STRINGS)));
+            needLine(0x2000, 1, file.wordAt(where(CLASSES) + 24));
+            needLine(0x1000, 1, map);
+            needThat(at == file.length);
+        }
+
+        private void needLine(int kind, int due, int first) {
+            needHalf(kind);
+            needHalf(0);
+            needWord(due);
+            needWord(first);
+        }
+
+        private void lookAtCode(int place) {
+            firstUnit = place;
             registers = file.halfAt(firstUnit - 16);
             units = file.wordAt(firstUnit - 4);
-            wrong = registers != one.registers() || file.halfAt(firstUnit - 14) != one.arguments
-                    || units < 1 || units > MOST_UNITS;
+            mostPassed = 0;
+            needThat(registers == one.registers() && file.halfAt(firstUnit - 14) == one.arguments
+                    && units >= 1 && units <= MOST_UNITS);
             begin();
             for (int looks = 0; looks < MOST_LOOKS && !wrong; looks++) {
                 int i = takeFirstChanged();
                 if (i == NONE) {
-                    return true;
+                    break;
                 }
                 lookAt(i);
             }
-            return !wrong;
+            needThat(mostPassed == file.halfAt(firstUnit - 12));
         }
 
         private void begin() {
@@ -2933,7 +3194,8 @@ public final class RegisterMill {
             }
             int big = unitAt(i) >>> 8;
             if (op == 0x77) {
-                needThat(big == called.arguments && big <= file.halfAt(firstUnit - 12));
+                needThat(big == called.arguments);
+                mostPassed = Math.max(mostPassed, big);
                 for (int k = 0; k < called.arguments; k++) {
                     need(unitAt(i + 2) + k, called.argumentTypes[k]);
                 }
@@ -2993,7 +3255,8 @@ public final class RegisterMill {
                 case 0x14: assignNumber(big, wordOf(i + 1)); break;
                 case 0x21: carry(small, other, ARRAY, INT); break;
                 case 0x23:
-                    needThat(second == file.names.typeNumbers[ARRAY]);
+                    needThat(arrayType == NONE || arrayType == second);
+                    arrayType = second;
                     carry(small, other, INT, ARRAY);
                     break;
                 case 0x44:
